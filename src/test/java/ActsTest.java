@@ -147,6 +147,11 @@ public final class ActsTest {
         Check.state("the other way round", ActsTest::chain, c -> c.special(0, 1));
         Check.state("the other way round, 2", ActsTest::chain, c -> c.special(1, 2));
         Check.state("over another", ActsTest::chain, c -> c.special(0, 2));
+        Conformary ring = threeActs();
+        ring.special(1, 0);
+        ring.special(0, 2);
+        Check.is("over the first one", Check.answer(ring, c -> c.special(2, 1)), "IllegalStateException");
+        Check.is("the way that it is", ring.special(1, 2), true);
         Conformary x = sixActs();
         for (int act = 5; act > 0; act--) {
             Check.is("link " + act, x.special(act - 1, act), true);
@@ -173,6 +178,15 @@ public final class ActsTest {
         x.risk(0, 1, 1, 1);
         x.risk(0, 2, 1, 1);
         Check.is("demands of act 2 alone", x.demands(0, false), 4);
+        Conformary two = threeActs();
+        two.special(1, 0);
+        two.special(2, 0);
+        Check.is("the first of two more special ones is so still", two.special(1, 0), false);
+        two.product(1);
+        two.act(1, 0, 8, 0);
+        two.special(3, 0);
+        Check.is("one of three more special ones is for it", two.applies(0, 1), false);
+        Check.is("the last one is ahead", two.applies(3, 1), true);
         Conformary y = new Conformary();
         y.act(1, 0, 1, 0);
         y.act(1, 0, 1, 5);

@@ -255,6 +255,8 @@ public final class MarketTest {
         Check.is("all of 5", x.ban(1, 0, true) + x.ban(3, 0, true), 9);
         Check.is("one not", x.ban(2, 0, false), 4);
         Check.is("the same not", x.ban(2, 0, false), 4);
+        Check.is("it was that one alone", x.ban(3, 0, true), 4);
+        Check.is("another one not", x.ban(3, 0, false), 3);
         Check.is("for another product none", x.ban(4, 1, true), 1);
         Check.is("still banned", x.wanting(0), 1);
     }
